@@ -675,7 +675,7 @@ public final class PromiseTests {
         x.reel(0, 0, 5, 200);
         x.load(0, 0, 0);
         x.order(0, 6, 0);
-        // The machine takes 0 in the tick 5. Boards of one way alternate 19 and more: it takes long.
+        // The machine takes 0 in the tick 5, for 16 ticks.
         x.tick(10);
         is("0 is placed", x.stationOf(0), 1);
         is("1 waits", x.stationOf(1), -2);
@@ -1159,6 +1159,8 @@ public final class PromiseTests {
         is("causes", x.causes(0), 1);
         refuses("leave 'u'", UNSUPPORTED, () -> x.leave(0));
         x.cover(0, 4095);
+        is("cover", x.cover(0, 4095), 4095);
+        is("the cause of the last test", x.causes(0), 1);
         is("found", x.test(0), 'f');
         is("at the bench", x.stateOf(0), 'b');
         is("called", x.at(0, 0, 'c'), 1);
@@ -1347,6 +1349,30 @@ public final class PromiseTests {
         is("the limit by then", y.washes(), 0);
         is("goes on", y.stationOf(0), -2);
         is("blocked", y.idle(0, true), 0);
+        washingAsThereIsRoom();
+    }
+
+    private static void washingAsThereIsRoom() {
+        Feederbank x = new Feederbank();
+        x.sort(1, 1, 2, 100, 300, 0);
+        x.product();
+        for (int i = 0; i < 12; i++) {
+            x.place(0, i % 2 * 19, i, 0, 0);
+        }
+        x.machine(7);
+        x.reel(0, 0, 5, 200);
+        x.load(0, 0, 0);
+        x.order(0, 4, 0);
+        x.tick(12);
+        is("a full belt", x.waiting(1), 2);
+        x.limit(false, 100);
+        // The machine needs 1, 12, and 2 and 1 for two long ways: it takes the next in the tick 21.
+        x.tick(8);
+        is("without room it would not go on", x.washes(), 0);
+        is("blocked from the tick 13 on", x.idle(0, true), 8);
+        x.tick(1);
+        is("with room it would", x.washes(), 1);
+        is("washed and begun again", x.wear(0), 5);
     }
 
     // 51, 52

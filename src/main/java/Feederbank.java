@@ -548,7 +548,6 @@ public final class Feederbank {
         Board board = boards[station.board];
         board.state = 'l';
         board.isInside = true;
-        board.station = index;
         switch (index) {
             case PRINTER:
                 station.ticks = beginPrinting(board);
@@ -1471,7 +1470,6 @@ public final class Feederbank {
             for (int i = 0; i < SIDES; i++) {
                 heatings[i] = new Heating();
             }
-            state = 'w';
             tested = UNTESTED;
         }
 

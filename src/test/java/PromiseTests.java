@@ -162,6 +162,8 @@ public final class PromiseTests {
         x.place(0, 0, 0, 0, 0);
         x.place(0, 1, 0, 0, 0);
         refuses("change of no product", INDEX, () -> x.change(1, 0, 0, 0));
+        refuses("change of no product", INDEX, () -> x.change(-1, 0, 0, 0));
+        refuses("change of no product", INDEX, () -> x.change(3, 0, 0, 0));
         refuses("change of no place", INDEX, () -> x.change(0, 2, 0, 0));
         refuses("change to no sort, with a bad number", INDEX, () -> x.change(0, 0, 4, 100));
         refuses("change", ARGUMENT, () -> x.change(0, 0, 1, -1));
@@ -263,6 +265,8 @@ public final class PromiseTests {
         is("needed", x.needed(0, 0, 0), 0);
         is("needed", x.needed(0, 0, 99), 0);
         refuses("needed of no product", INDEX, () -> x.needed(1, 0, 0));
+        refuses("needed of no product", INDEX, () -> x.needed(-1, 0, 0));
+        refuses("needed of no product", INDEX, () -> x.needed(3, 0, 0));
         refuses("needed of no place", INDEX, () -> x.needed(0, 1, 100));
         refuses("needed", ARGUMENT, () -> x.needed(0, 0, -1));
         refuses("needed", ARGUMENT, () -> x.needed(0, 0, 100));
@@ -1375,6 +1379,101 @@ public final class PromiseTests {
         is("washed and begun again", x.wear(0), 5);
     }
 
+    /** Two products, of one and of two places that are too hot; changes and alternates are of one alone. */
+    private static void twoProducts() {
+        Feederbank x = new Feederbank();
+        x.sort(1, 1, 2, 100, 200, 0);
+        x.sort(1, 1, 2, 100, 300, 0);
+        x.product();
+        x.product();
+        x.place(0, 0, 0, 0, 1);
+        x.place(1, 0, 0, 0, 0);
+        x.place(1, 5, 0, 0, 0);
+        x.machine(7);
+        x.reel(0, 0, 5, 20);
+        x.reel(1, 1, 5, 50);
+        x.load(0, 0, 0);
+        x.load(0, 1, 1);
+        is("change of the second", x.change(1, 0, 1, 5), 0);
+        is("the first is not changed", x.needed(0, 0, 9), 1);
+        is("the second is changed", x.needed(1, 0, 9), 1);
+        x.alternate(1, 0, 1, 1);
+        x.order(0, 1, 0);
+        x.order(1, 2, 0);
+        x.tick(60);
+        is("the first is ready", x.stateOf(0), 'r');
+        refuses("the first has one place", INDEX, () -> x.at(0, 1, 'r'));
+        is("the second is called", x.at(1, 0, 'c') + 2 * x.at(1, 1, 'c'), 3);
+        is("heats by its own sort", x.fault(1, 1), 'b');
+        is("serial numbers of its own", x.shortage(1, 40, 0), 3 + 40 - 16);
+        refuses("an alternate of a later serial number", UNSUPPORTED, () -> x.mend(1, 0, 1));
+        is("mend by the alternate", x.mend(2, 0, 1), 'b');
+        is("judge", x.judge(1, 0), false);
+        is("one is called still", x.stateOf(1), 'b');
+        is("judge", x.judge(1, 1), false);
+        is("all are faulty", x.test(1), 'u');
+        x.cover(1, 3);
+        is("needles find both", x.test(1), 'f');
+        is("both are called", x.at(1, 0, 'c') + 2 * x.at(1, 1, 'c'), 3);
+        x.cover(1, 1);
+        x.mend(1, 1, 0);
+        x.mend(1, 0, 0);
+        is("good", x.test(1), 'g');
+        is("both parts are held", x.setAside(0), 2);
+        is("both are called", x.at(1, 0, 'c') + 2 * x.at(1, 1, 'c'), 3);
+        is("the one at the bench waits for its call", x.at(2, 0, 'c') + 2 * x.at(2, 1, 'c'), 2);
+    }
+
+    private static void washingOfTwoProducts() {
+        Feederbank x = simple();
+        x.product();
+        x.place(1, 0, 0, 0, 0);
+        x.tick(60);
+        x.limit(false, 74);
+        x.order(0, 1, 0);
+        x.order(1, 1, 0);
+        x.tick(4);
+        is("washed", x.washes(), 1);
+        is("the other product is begun", x.stationOf(1), 0);
+        is("its stencil is as dry as it was", x.at(1, 0, 'v'), 110);
+        x.limit(false, 60);
+        x.tick(2);
+        is("still printed", x.stationOf(1), 0);
+        x.tick(6);
+        is("printed again", x.at(0, 0, 'v'), 149);
+        Feederbank y = simple();
+        y.tick(60);
+        y.limit(false, 74);
+        y.order(0, 1, 0);
+        y.tick(1);
+        y.setAside(0);
+        y.tick(3);
+        is("washed, and it can't be begun again", y.washes() * 10 + y.waiting(0), 11);
+        y.tick(8);
+        is("wiped by washing behind 63 ticks", y.wipe(0), 0);
+    }
+
+    private static void dealingOfWashed() {
+        Feederbank x = new Feederbank();
+        x.sort(1, 1, 2, 100, 300, 0);
+        x.product();
+        for (int i = 0; i < 3; i++) {
+            x.place(0, i, 0, 0, 0);
+        }
+        x.machine(7);
+        x.machine(7);
+        x.reel(0, 0, 0, 50);
+        x.reel(0, 0, 0, 50);
+        x.load(0, 0, 0);
+        x.load(1, 0, 1);
+        x.limit(false, 100);
+        x.tick(20);
+        x.order(0, 1, 0);
+        x.tick(4);
+        is("washed", x.washes(), 1);
+        is("dealt anew", x.at(0, 0, 'd') + 10 * x.at(0, 1, 'd') + 100 * x.at(0, 2, 'd'), 10);
+    }
+
     // 51, 52
     private static void shares() {
         Feederbank x = simple();
@@ -1499,6 +1598,9 @@ public final class PromiseTests {
         shortages();
         lateness();
         washing();
+        washingOfTwoProducts();
+        dealingOfWashed();
+        twoProducts();
         shares();
         checksums();
         soundness();

@@ -67,6 +67,23 @@ public final class EdgeTests extends Checks {
             is("7", x.needed(0, 0, 7), 2);
             is("8", x.needed(0, 0, 8), 1);
         });
+        sentence("a change of boards that wait: the first one, and all 40", () -> {
+            Feederbank x = line();
+            x.sort(2, 1, 2, 100, 300, 0);
+            x.load(0, 1, x.reel(1, 1, 0, 50));
+            for (int i = 0; i < 4; i++) {
+                x.order(0, 9, 0);
+            }
+            x.order(0, 4, 0);
+            x.change(0, 0, 1, 0);
+            x.change(0, 0, 0, 1);
+            x.change(0, 0, 1, 39);
+            x.tick(5);
+            is("the first one", x.at(0, 0, 'v') * 10 + x.at(0, 0, 'r'), 2001);
+            is("the next one", x.at(1, 0, 'v'), 149);
+            ticks(x, 200);
+            is("the last one", x.at(39, 0, 'v'), 200 - 39);
+        });
         sentence("an alternate: from a serial number on", () -> {
             Feederbank x = lying(1, 1, 0);
             x.load(0, 0, x.reel(1, 1, 0, 200));
@@ -659,6 +676,18 @@ public final class EdgeTests extends Checks {
             y.tick(1);
             is("washed", y.washes(), 1);
         });
+        sentence("the stencil is wiped, which makes the dryness 0, from the tick of washing on", () -> {
+            Feederbank x = line();
+            x.tick(50);
+            x.limit(false, 74);
+            x.order(0, 1, 0);
+            x.tick(1);
+            x.setAside(0);
+            x.tick(3);
+            is("washed, and not begun again", x.washes() * 100 - x.stationOf(0), 101);
+            x.tick(8);
+            is("12 ticks since it was printed, 9 since it was wiped", x.wipe(0), 0);
+        });
         sentence("it goes back to the end of the row, and is taken at once if it is alone there", () -> {
             Feederbank x = line();
             x.tick(50);
@@ -729,6 +758,17 @@ public final class EdgeTests extends Checks {
             x.place(0, 14, 7, 0, 0);
             x.order(0, 1, 0);
             x.tick(8);
+            is("placed still", x.stationOf(0), 1);
+            x.tick(1);
+            is("placed", x.stationOf(0), -3);
+        });
+        sentence("ways of y alone are cut for themselves, too", () -> {
+            // Ways 9 and 9: 1 + 2 ticks, and 1 more for each.
+            Feederbank x = line(1, 100, 300, 0);
+            x.place(0, 0, 9, 0, 0);
+            x.place(0, 0, 18, 0, 0);
+            x.order(0, 1, 0);
+            x.tick(9);
             is("placed still", x.stationOf(0), 1);
             x.tick(1);
             is("placed", x.stationOf(0), -3);
@@ -1431,6 +1471,20 @@ public final class EdgeTests extends Checks {
             is("40 to 78", x.shortage(0, 39, 1), 0);
             is("40 to 79", x.shortage(0, 40, 1), 1);
         });
+        sentence("ready or left in all", () -> {
+            Feederbank x = line();
+            x.order(0, 3, 0);
+            is("one is ready", x.tick(20), 1);
+            is("two are ready", x.tick(1), 2);
+            x.test(0);
+            x.leave(0);
+            is("one left, two are ready", x.tick(5), 3);
+            x.test(1);
+            x.leave(1);
+            is("two left, one is ready", x.tick(1), 3);
+            is("neither scrap", scrap().tick(1), 0);
+            is("nor at the bench", bench().tick(1), 0);
+        });
         sentence("the share of boards that left: none, one of three, all", () -> {
             Feederbank x = line();
             x.order(0, 3, 0);
@@ -1488,6 +1542,78 @@ public final class EdgeTests extends Checks {
         });
     }
 
+    private static void full() {
+        sentence("8 alternates, of which none stands for what is needed", () -> {
+            Feederbank x = lying(1, 1, 0);
+            for (int i = 0; i < 8; i++) {
+                x.alternate(0, 1, 0, i);
+            }
+            x.setAside(0);
+            x.order(0, 1, 0);
+            x.tick(5);
+            is("it waits", x.stateOf(0), 'w');
+            Feederbank y = bench();
+            y.sort(1, 1, 2, 100, 300, 0);
+            for (int i = 0; i < 8; i++) {
+                y.alternate(0, 1, 0, 0);
+            }
+            y.reel(1, 1, 0, 9);
+            refuses(UNSUPPORTED, y, z -> z.mend(0, 0, 1));
+        });
+        sentence("the last of 8 changes and of 8 alternates counts", () -> {
+            Feederbank x = lying(1, 1, 0);
+            x.sort(1, 1, 2, 100, 300, 0);
+            for (int i = 0; i < 7; i++) {
+                x.alternate(0, 1, 2, 0);
+                x.change(0, 0, 2, 50 + i);
+            }
+            x.change(0, 0, 1, 0);
+            is("the change", x.needed(0, 0, 0), 1);
+            x.alternate(0, 1, 0, 0);
+            x.order(0, 1, 0);
+            x.tick(5);
+            is("the alternate", x.at(0, 0, 'r'), 0);
+        });
+        sentence("40 boards of 12 places, 20 reels and 3 machines answer all that is asked", () -> {
+            Feederbank x = new Feederbank();
+            fill(x);
+            for (int i = 0; i < 10; i++) {
+                x.tick(200);
+            }
+            is("sound", x.isSound(), true);
+            is("all sides are heated", x.meanHeat() > 20.0, true);
+            is("none left", x.leftShare(), 0f);
+            is("none needed of the sort 9", x.shortage(0, 40, 9), 0);
+            is("no reel of the lot 99", x.recall(99, true), 0);
+            is("no part of the reel 17", x.recall(17, false), 0);
+            is("the last place", x.at(39, 11, 'h') > 0, true);
+            is("late ones", x.late(0), 4);
+        });
+        sentence("a board that left with 12 parts, none of which is asked for", () -> {
+            Feederbank x = line(1, 100, 300, 12);
+            x.reel(0, 0, 6, 9);
+            x.order(0, 1, 0);
+            x.tick(60);
+            x.test(0);
+            is("left", x.leave(0), 1);
+            is("another reel", x.recall(1, false), 0);
+            is("another lot", x.recall(6, true), 0);
+            is("its own", x.recall(5, true), 1);
+        });
+        sentence("40 boards are held by one reel, and none by another", () -> {
+            Feederbank x = line(1, 100, 249, 1);
+            x.reel(0, 0, 0, 9);
+            for (int i = 0; i < 4; i++) {
+                x.order(0, 9, 0);
+            }
+            x.order(0, 4, 0);
+            ticks(x, 200);
+            is("all", x.setAside(0), 40);
+            is("none", x.setAside(1), 0);
+            is("the last one", x.isHeld(39), true);
+        });
+    }
+
     private static int fill(Feederbank x) {
         for (int i = 0; i < 10; i++) {
             x.sort(1 + i % 3, 1 + i % 9, 1 + i, 100, 300, i == 9 ? 999 : 0);
@@ -1532,6 +1658,7 @@ public final class EdgeTests extends Checks {
         needles();
         lies();
         numbers();
+        full();
         all();
         System.exit(end("EdgeTests"));
     }

@@ -1548,9 +1548,9 @@ public final class PromiseTests {
         refuses("test", UNSUPPORTED, () -> x.test(0));
         refuses("leave", UNSUPPORTED, () -> x.leave(0));
         Feederbank y = new Feederbank();
-        y.sort(1, 2, 3, 150, 200, 50);
-        y.reel(0, 0, 7, 12);
-        y.machine(1);
+        is("sort", y.sort(1, 2, 3, 150, 200, 50), 0);
+        is("reel", y.reel(0, 0, 7, 12), 0);
+        is("machine", y.machine(1), 0);
         is("load", y.load(0, 2, 0), -1);
         is("tick", y.tick(10), 0);
         is("lifeLeft", y.lifeLeft(0), 40);
